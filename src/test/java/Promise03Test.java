@@ -111,6 +111,26 @@ public final class Promise03Test {
         CHECK.due("new paper", rig.x.paper(0, 0), 0);
     }
 
+    /** The old job's words, cards and registers must not show through a shorter deck. */
+    private static void nothingOfTheOldJobIsLeft() {
+        int[] program = new int[48];
+        java.util.Arrays.fill(program, 9);
+        program[0] = Rig.op(Rig.GET, 0);
+        program[1] = Rig.op(Rig.READ);
+        program[2] = Rig.op(Rig.LOAD_X, 40);
+        program[3] = Rig.END;
+        Rig rig = Rig.ran(3, 50, 1, program, 31, 32, 33);
+        CHECK.due("the old job", rig.registers(0) + " " + rig.moved(0), "3 1 4 4 31 9 1 0 0 0");
+        rig.load(3, 50, 1, Rig.ints(Rig.op(Rig.GET, 0), Rig.op(Rig.READ), Rig.op(Rig.READ)), 41);
+        for (int i = 3; i < 48; i++) {
+            CHECK.due("word " + i + " behind the new program", rig.x.word(0, i), 0);
+        }
+        CHECK.due("the new job", rig.registers(0) + " " + rig.moved(0), "1 0 0 0 0 0 0 0 0 0");
+        rig.line("A0");
+        rig.finish(0);
+        CHECK.due("it has one card", rig.registers(0) + " " + rig.moved(0), "3 4 2 2 41 0 1 0 0 0");
+    }
+
     private static void claimsAreBits() {
         for (int claims = 0; claims <= 11; claims++) {
             for (int r = 0; r < 3; r++) {
@@ -128,6 +148,7 @@ public final class Promise03Test {
         whatIsBehindTheProgram();
         theNumbers();
         paperAndCancelGoWithTheNumber();
+        nothingOfTheOldJobIsLeft();
         claimsAreBits();
         CHECK.finish();
     }

@@ -160,6 +160,28 @@ public final class Promise07Test {
         CHECK.due("it ends then", slow.registers(0), "3 5 0 0 0 0");
     }
 
+    /** One that was cancelled in the row of GETS is no more in it when the resource is given. */
+    private static void cancelledOnesLeaveTheRow() {
+        Rig rig = new Rig(4, 2, 9);
+        rig.load(1, 99, 1, Rig.ints(Rig.op(Rig.GET, 0), Rig.op(Rig.ASK), Rig.op(Rig.GIVE, 0), Rig.op(Rig.ASK)));
+        rig.load(1, 99, 1, Rig.ints(Rig.op(Rig.GET, 0), Rig.op(Rig.ASK)));
+        rig.line("A0");
+        rig.line("A1");
+        rig.settle();
+        rig.line("C1");
+        rig.settle();
+        CHECK.due("1 is over", rig.waits() + " " + rig.registers(1), "5000007777 3 5 0 0 0 0");
+        rig.line("R0 1");
+        rig.settle();
+        CHECK.due("the reader is free", rig.free() + " " + rig.held(1) + " " + rig.registers(1),
+                "1 1 2 0 0 0 3 5 0 0 0 0");
+        CHECK.due("nobody is woken", rig.row() + " " + rig.waits(), " 5000007777");
+        rig.line("C0");
+        rig.settle();
+        CHECK.due("nor when all are over", rig.free() + " " + rig.held(1) + " " + rig.registers(1),
+                "1 1 2 0 0 0 3 5 0 0 0 0");
+    }
+
     private static void cancelledAtADevice() {
         Rig rig = new Rig(4, 1, 9);
         rig.load(1, 99, 7, Rig.ints(Rig.op(Rig.GET, 0), Rig.op(Rig.READ), Rig.op(Rig.GET, 1), Rig.op(Rig.GET, 2),
@@ -202,6 +224,7 @@ public final class Promise07Test {
         twoPagesAreRoomForEight();
         aResource();
         cancelled();
+        cancelledOnesLeaveTheRow();
         cancelledAtADevice();
         CHECK.finish();
     }

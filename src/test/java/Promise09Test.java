@@ -25,6 +25,20 @@ public final class Promise09Test {
         CHECK.due("the other's stays", rig.x.paper(1, 0), 300);
     }
 
+    /** The printer prints for the one that holds it, whoever else is admitted. */
+    private static void theHoldersPaper() {
+        Rig rig = new Rig(6, 1, 2);
+        rig.load(1, 50, 6, Rig.ints(Rig.op(Rig.ASK)));
+        rig.load(1, 50, 6, Rig.ints(Rig.op(Rig.GET, 2), Rig.op(Rig.GET, 1), Rig.op(Rig.SET, 44), Rig.op(Rig.PRINT), 0));
+        rig.load(1, 50, 6, Rig.ints(Rig.op(Rig.ASK)));
+        for (int k = 0; k < 3; k++) {
+            rig.line("A" + k);
+            rig.settle();
+        }
+        rig.finish(1);
+        CHECK.due("papers", rig.paper(0) + "," + rig.paper(1) + "," + rig.paper(2), ",44,");
+    }
+
     private static void lineByLine() {
         Rig rig = new Rig(4, 1, 9);
         rig.load(2, 99, 6, Rig.ints(Rig.op(Rig.GET, 1), Rig.op(Rig.GET, 2), Rig.op(Rig.SET, 5), Rig.op(Rig.PRINT),
@@ -44,6 +58,7 @@ public final class Promise09Test {
 
     public static void main(String[] args) {
         twoPapers();
+        theHoldersPaper();
         lineByLine();
         CHECK.finish();
     }

@@ -64,10 +64,42 @@ public final class Promise10Test {
         CHECK.due("brought", rig.x.about(9) > 8, true);
     }
 
+    /** The program's own segment is changed, goes to the drum and comes back. */
+    private static void theFirstSegmentGoesToo() {
+        Rig rig = new Rig(4, 1, 9);
+        int[] program = new int[24];
+        program[0] = Rig.op(Rig.SET, 50);
+        program[1] = Rig.op(Rig.STORE, 5);
+        program[2] = Rig.op(Rig.JUMP, 16);
+        program[16] = Rig.op(Rig.LOAD, 32);
+        program[17] = Rig.op(Rig.LOAD, 48);
+        program[18] = Rig.op(Rig.LOAD, 64);
+        program[19] = Rig.op(Rig.LOAD, 5);
+        program[20] = Rig.END;
+        rig.load(5, 50, 0, program);
+        rig.line("A0");
+        boolean gone = false;
+        for (int i = 0; i < 60 && rig.x.job(0, 0) != 3; i++) {
+            rig.x.tick(2);
+            boolean there = false;
+            for (int f = 0; f < 4; f++) {
+                there |= rig.x.frame(f, 0) == 0 && rig.x.frame(f, 1) == 0;
+            }
+            gone |= rig.x.job(0, 2) > 3 && !there;
+            if (rig.x.job(0, 0) == 2 && rig.x.job(0, 2) >= 2) {
+                CHECK.due("the stored word", rig.x.word(0, 5), 50);
+            }
+            rig.x.done(0);
+        }
+        CHECK.due("segment 0 went", gone, true);
+        CHECK.due("over", rig.x.job(0, 1) + " " + rig.x.job(0, 4), "1 50");
+    }
+
     public static void main(String[] args) {
         onTheDrum();
         inCoreAndOver();
         goingRoundTheDrum();
+        theFirstSegmentGoesToo();
         CHECK.finish();
     }
 }
