@@ -72,6 +72,21 @@ final class Rig {
         }
     }
 
+    /** Goes on, tick by tick and the drum being quick, until each admitted job has done a step. */
+    void untilAllRun() {
+        for (int i = 0; i < 100; i++) {
+            x.tick(1);
+            x.done(0);
+            boolean all = x.about(8) > 0 && x.about(10) == 0;
+            for (int k = 0; k < 6; k++) {
+                all &= x.job(k, 0) != 2 || x.job(k, 2) > 0;
+            }
+            if (all) {
+                return;
+            }
+        }
+    }
+
     /** Goes on, all devices being quick, until job k is over. */
     void finish(int k) {
         for (int i = 0; i < 100 && x.job(k, 0) != 3; i++) {
@@ -119,6 +134,11 @@ final class Rig {
             text.append(x.process(k, 1));
         }
         return text.toString();
+    }
+
+    /** Place in the row, and what it waits for. */
+    String process(int k) {
+        return x.process(k, 0) + " " + x.process(k, 1);
     }
 
     /** "free", "busy", or job.segment, c for CHANGED, p for PINNED, and @USED. */
@@ -170,6 +190,27 @@ final class Rig {
             text.append(i == 0 ? "" : " ").append(x.paper(k, i));
         }
         return text.toString();
+    }
+
+    /** All that job(k, ..) tells. */
+    String all(int k) {
+        return numbers(k, 0, 12);
+    }
+
+    /** All that can be seen without a change, so that a refused call can be shown to do nothing. */
+    String whole() {
+        StringBuilder text = new StringBuilder(row()).append('|').append(waits());
+        for (int k = 0; k < 6; k++) {
+            text.append('|').append(all(k)).append('|').append(paper(k)).append('|');
+            for (int i = 0; i < 128; i++) {
+                text.append(x.word(k, i)).append(' ');
+            }
+        }
+        text.append('|').append(frames(12)).append('|');
+        for (int what = 0; what <= 10; what++) {
+            text.append(x.about(what)).append(' ');
+        }
+        return text.append('|').append(said()).toString();
     }
 
     private String numbers(int k, int from, int to) {
