@@ -234,6 +234,7 @@ public final class EdgesOfAnswersTest {
             }
             CHECK.due("the last of " + frames + " has a segment", told(rig, frames - 1).matches("[01] [1-7] 0 1 \\d+"),
                     true);
+            CHECK.due("the first is neither CHANGED nor PINNED", told(rig, 0).matches("[01] [0-7] 0 0 \\d+"), true);
             for (int f : new int[] {-1, -2, frames, LEAST, MOST}) {
                 CHECK.due("frame " + f, told(rig, f), "-1 -1 -1 -1 -1");
             }
@@ -265,13 +266,6 @@ public final class EdgesOfAnswersTest {
         }
     }
 
-    private static void wrongLines(Rig rig, int count) {
-        for (int i = 0; i < count; i++) {
-            rig.x.type(10);
-            rig.x.tick(1);
-        }
-    }
-
     /**
      * Promise 12: "bytes that the console said (all, also those that were not kept)"; promise 13: "(of the first
      * 600); NONE when there is none."
@@ -279,16 +273,16 @@ public final class EdgesOfAnswersTest {
     private static void sixHundredBytes() {
         Rig rig = new Rig(4, 1, 9);
         CHECK.due("nothing said", rig.x.about(7) + " " + rig.x.octet(0), "0 -1");
-        wrongLines(rig, 1);
+        rig.wrongLines(1);
         CHECK.due("the first", rig.x.about(7) + " " + rig.x.octet(0) + " " + rig.x.octet(1), "2 63 10");
         CHECK.due("no third", rig.x.octet(2), -1);
         CHECK.due("none ahead of the first", rig.x.octet(-1), -1);
-        wrongLines(rig, 298);
+        rig.wrongLines(298);
         CHECK.due("598 said", rig.x.about(7) + " " + rig.x.octet(597) + " " + rig.x.octet(598), "598 10 -1");
-        wrongLines(rig, 1);
+        rig.wrongLines(1);
         CHECK.due("600 said", rig.x.about(7) + " " + rig.x.octet(598) + " " + rig.x.octet(599), "600 63 10");
         CHECK.due("no more", rig.x.octet(600), -1);
-        wrongLines(rig, 1);
+        rig.wrongLines(1);
         CHECK.due("602 said", rig.x.about(7), 602);
         CHECK.due("600 kept", rig.x.octet(599) + " " + rig.x.octet(600) + " " + rig.x.octet(601), "10 -1 -1");
         CHECK.due("the first is kept", rig.x.octet(0) + " " + rig.x.octet(1), "63 10");

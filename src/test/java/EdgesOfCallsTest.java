@@ -225,6 +225,40 @@ public final class EdgesOfCallsTest {
         CHECK.due("no number is left", rig.load(1, 50, 0, program), -1);
     }
 
+    /** Promise 3: "(what was of it is gone)", of a job that had something of everything. */
+    private static void whatWasOfItIsGone() {
+        Rig rig = new Rig(4, 2, 9);
+        int[] program = {Rig.op(Rig.GET, 0), Rig.op(Rig.GET, 1), Rig.op(Rig.GET, 2), Rig.op(Rig.READ),
+            Rig.op(Rig.PRINT), Rig.op(Rig.LOAD_X, 20), Rig.op(Rig.STORE, 21), Rig.op(Rig.ASK)};
+        int[] words = java.util.Arrays.copyOf(program, 24);
+        words[20] = -3;
+        rig.load(2, 50, 7, words, 61, 62, 63);
+        rig.line("A0");
+        rig.settle();
+        rig.x.done(1);
+        rig.settle();
+        rig.x.done(2);
+        rig.settle();
+        rig.line("C0");
+        rig.settle();
+        CHECK.due("the old one", rig.all(0) + ", " + rig.paper(0), "3 5 7 7 61 -3 1 1 1 1 1 0 1, 61");
+        CHECK.due("the new one's number", rig.load(2, 50, 7, Rig.ints(Rig.op(Rig.GET, 0), Rig.op(Rig.GET, 1),
+                Rig.op(Rig.GET, 2), Rig.op(Rig.READ), Rig.op(Rig.PRINT), Rig.op(Rig.READ)), 91), 0);
+        CHECK.due("all of it is new", rig.all(0) + ", " + rig.x.paper(0, 0), "1 0 0 0 0 0 0 0 0 0 0 0 0, 0");
+        for (int i = 6; i < 32; i++) {
+            CHECK.due("word " + i, rig.x.word(0, i), 0);
+        }
+        rig.line("A0");
+        rig.settle();
+        CHECK.due("it runs, and is not cancelled", rig.all(0), "2 0 3 3 0 0 1 1 1 0 0 0 0");
+        rig.x.done(1);
+        rig.settle();
+        rig.x.done(2);
+        rig.settle();
+        CHECK.due("its one card, its one line", rig.all(0) + ", " + rig.paper(0),
+                "3 4 5 5 91 0 1 1 1 1 1 0 0, 91");
+    }
+
     /** Promise 4: "n TICKS (0 to 200)"; "NONE for others." */
     private static void ticks() {
         Rig rig = new Rig(4, 1, 9);
@@ -324,6 +358,15 @@ public final class EdgesOfCallsTest {
         CHECK.due("what was refused is no line of its own", rig.x.job(0, 0), 1);
         rig.x.tick(1);
         CHECK.due("the line behind it is whole", rig.said() + rig.x.job(0, 0), "?/2");
+        rig = new Rig(4, 1, 9);
+        for (int line = 0; line <= 8; line++) {
+            for (int i = 0; i <= 20; i++) {
+                CHECK.due("line " + line + ", byte " + i, rig.x.type('0'), i < 20);
+            }
+            CHECK.due("line " + line + ", its 10", rig.x.type(10), line < 8);
+        }
+        rig.x.tick(9);
+        CHECK.due("eight lines were said to be wrong", rig.x.about(7) + " " + rig.x.about(10), "16 0");
     }
 
     /** Promise 6: "or 8 lines in the row (for 10)". */
@@ -353,6 +396,32 @@ public final class EdgesOfCallsTest {
         CHECK.due("the ninth was kept whole", rig.x.about(10) + " " + rig.x.job(0, 0), "0 2");
     }
 
+    /** The row and the line behind it at their fullest: 8 lines of 20 bytes and 20 bytes more. */
+    private static void allThatCanBeTyped() {
+        for (String ninth : new String[] {"A1", "R0 123456789", "R0 12345678900000000", "A1                  "}) {
+            Rig rig = new Rig(4, 1, 9);
+            rig.load(1, 9, 0, Rig.ints(Rig.op(Rig.ASK), Rig.op(Rig.ASK)));
+            rig.load(1, 9, 0, Rig.ints(Rig.op(Rig.ASK)));
+            rig.line("A0");
+            rig.settle();
+            for (int i = 0; i < 8; i++) {
+                rig.line("R0 12345678900000000");
+            }
+            for (char c : ninth.toCharArray()) {
+                CHECK.due("a byte of the ninth", rig.x.type(c), true);
+            }
+            CHECK.due("not yet", rig.x.type(10), false);
+            rig.x.tick(1);
+            CHECK.due("then", rig.x.type(10), true);
+            rig.x.tick(7);
+            CHECK.due("eight wrong ones", rig.said(), "0?/?/?/?/?/?/?/?/?/");
+            rig.x.tick(1);
+            CHECK.due("'" + ninth + "'", rig.x.about(7) + " " + rig.x.job(0, 4) + " " + rig.x.job(1, 0),
+                    (ninth.length() == 20 ? 21 : 19) + (ninth.length() == 12 ? " 123456789 " : " 0 ")
+                    + (ninth.length() == 2 ? 2 : 1));
+        }
+    }
+
     public static void main(String[] args) {
         sizesBelowAndAbove();
         theTapeIsFull();
@@ -361,11 +430,13 @@ public final class EdgesOfCallsTest {
         notSoManyInts();
         morePagesThanThereAre();
         theLowestNumber();
+        whatWasOfItIsGone();
         ticks();
         devices();
         otherBytes();
         twentyBytes();
         eightLines();
+        allThatCanBeTyped();
         CHECK.finish();
     }
 }

@@ -126,6 +126,76 @@ public final class EdgesOfPart3Test {
         CHECK.due("brought", rig.frame(1).substring(0, 5) + " " + rig.x.about(1) + " " + rig.x.about(9), "0.4p@ 0 5");
     }
 
+    /** "the tick of the latest step of its job that found in it .. and wanted no segment (also one .. in a TRAP)". */
+    private static void usedOrNot() {
+        int[][] words = {{-1, 6}, {Rig.op(20), 6}, {Rig.op(Rig.LOAD, 16), 6}, {Rig.op(Rig.DIV, 15), 6},
+            {Rig.op(Rig.GET, 0), 6}, {Rig.op(Rig.GET, 3), 6}, {Rig.op(Rig.ASK), 6}, {Rig.op(Rig.SET, 1), 6},
+            {Rig.op(Rig.END), 6}};
+        for (int[] word : words) {
+            Rig rig = new Rig(4, 1, 9);
+            rig.load(1, 50, 0, Rig.ints(Rig.op(Rig.SET, 1), word[0]));
+            rig.line("A0");
+            rig.x.tick(3);
+            rig.x.done(0);
+            rig.x.tick(1);
+            CHECK.due("it came", rig.frame(0), "0.0p@4");
+            rig.x.tick(1);
+            CHECK.due("a step", rig.frame(0), "0.0@5");
+            rig.x.tick(1);
+            CHECK.due("the word " + word[0], rig.frame(0), "0.0@" + word[1]);
+        }
+        Rig rig = new Rig(4, 1, 9);
+        rig.load(2, 50, 0, Rig.ints(Rig.op(Rig.SET, 1), Rig.op(Rig.DIV, 16)));
+        rig.line("A0");
+        rig.x.tick(3);
+        rig.x.done(0);
+        rig.x.tick(3);
+        CHECK.due("a step that wants a segment", rig.frames(2), "0.0@5 free");
+        rig.x.tick(1);
+        rig.x.done(0);
+        rig.x.tick(1);
+        CHECK.due("it came", rig.frames(2), "0.0@5 0.1p@8");
+        rig.x.tick(1);
+        CHECK.due("a TRAP with both", rig.frames(2), "0.0@9 0.1p@9");
+
+        rig = new Rig(4, 1, 9);
+        rig.load(1, 1, 0, Rig.ints(Rig.op(Rig.JUMP, 99), Rig.op(Rig.SET, 1)));
+        rig.line("A0");
+        rig.x.tick(3);
+        rig.x.done(0);
+        rig.x.tick(3);
+        CHECK.due("a step that begins to end at the limit finds no word", rig.frame(0), "0.0@5");
+    }
+
+    /** Segment 0, the last word of segment 7: each goes to the drum and comes back whole. */
+    private static void theFirstAndTheLastSegment() {
+        Rig rig = new Rig(4, 1, 9);
+        int[] program = new int[31];
+        program[0] = Rig.op(Rig.SET, 33);
+        program[1] = Rig.op(Rig.STORE, 0);
+        program[2] = Rig.op(Rig.STORE, 127);
+        program[3] = Rig.op(Rig.JUMP, 16);
+        for (int i = 2; i <= 6; i++) {
+            program[14 + i] = Rig.op(Rig.LOAD, 16 * i);
+        }
+        program[21] = Rig.op(Rig.LOAD_X, 0);
+        program[22] = Rig.op(Rig.LOAD, 127);
+        program[23] = Rig.END;
+        rig.load(8, 50, 0, program);
+        rig.line("A0");
+        int writings = 0;
+        for (int i = 0; i < 200 && rig.x.job(0, 0) != 3; i++) {
+            rig.x.tick(1);
+            writings += rig.x.about(1) == 1 ? 1 : 0;
+            rig.x.done(0);
+            if (rig.x.job(0, 0) == 2 && rig.x.job(0, 2) >= 3) {
+                CHECK.due("both words", rig.x.word(0, 0) + " " + rig.x.word(0, 127), "33 33");
+            }
+        }
+        CHECK.due("both were written", writings, 2);
+        CHECK.due("and came back", rig.registers(0), "3 1 12 24 33 33");
+    }
+
     /** The drum writes segment 1 of job 0, which waits for a reply, as job 1 needs its frame. */
     private static Rig writing() {
         Rig rig = new Rig(4, 1, 9);
@@ -223,6 +293,8 @@ public final class EdgesOfPart3Test {
         theLowestFree();
         pinnedOrNot();
         changedOrNot();
+        usedOrNot();
+        theFirstAndTheLastSegment();
         notOverByThen();
         overByThen();
         theNewJobIsWritten();

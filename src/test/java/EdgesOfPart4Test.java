@@ -199,6 +199,72 @@ public final class EdgesOfPart4Test {
         CHECK.due("with a claim more none could begin", rig.held(2) + " " + rig.x.process(2, 1), "0 0 0 6");
     }
 
+    /** Six jobs that can end in one order only, each one needing all that those ahead of it hold. */
+    private static void sixInOneOrder() {
+        for (int direction = 0; direction <= 1; direction++) {
+            for (int more = -1; more <= 5; more++) {
+                Rig rig = new Rig(12, 6, 9);
+                for (int k = 0; k < 6; k++) {
+                    int rank = direction == 0 ? k : 5 - k;
+                    int claim = Math.min(6, rank + 1 + (rank == more ? 1 : 0));
+                    rig.load(1, 50, 4 * claim, getting(1));
+                    rig.line("A" + k);
+                }
+                rig.settle();
+                // With one claim higher the job of that rank can't follow those ahead of it.
+                boolean safe = more == -1 || more == 5;
+                CHECK.due("direction " + direction + ", more " + more, rig.x.about(6), safe ? 0 : 1);
+                CHECK.due("one of them waits", rig.waits().replaceAll("[^6]", ""), safe ? "" : "6");
+            }
+        }
+    }
+
+    /** The claims of every kind count: a job that lacks the one kind hinders the other. */
+    private static void eachKindCounts() {
+        for (int first = 0; first <= 2; first++) {
+            for (int second = 0; second <= 2; second++) {
+                if (first == second) {
+                    continue;
+                }
+                for (int alone = 0; alone <= 1; alone++) {
+                    int both = (1 << first) + (1 << second);
+                    Rig rig = new Rig(4, 1, 9);
+                    rig.load(1, 50, alone == 1 ? 1 << first : both, Rig.ints(get(first), Rig.op(Rig.ASK)));
+                    rig.load(1, 50, both, Rig.ints(get(second), Rig.op(Rig.ASK)));
+                    rig.line("A0");
+                    rig.settle();
+                    rig.line("A1");
+                    rig.settle();
+                    CHECK.due(first + " held, GET " + second + (alone == 1 ? ", not claimed by both" : ""),
+                            rig.waits(), alone == 1 ? "5500007777" : "5600007777");
+                }
+            }
+        }
+    }
+
+    /** One in the row that can't have its own stays, and those behind it are looked at all the same. */
+    private static void whoCanNotStays() {
+        Rig rig = new Rig(8, 1, 9);
+        rig.load(1, 50, 6, Rig.ints(get(1), get(2), Rig.op(Rig.ASK), give(2), Rig.op(Rig.ASK), give(1),
+                Rig.op(Rig.ASK)));
+        rig.load(1, 50, 2, Rig.ints(get(1), Rig.op(Rig.ASK)));
+        rig.load(1, 50, 4, Rig.ints(get(2), Rig.op(Rig.ASK)));
+        for (int k = 0; k < 3; k++) {
+            rig.line("A" + k);
+            rig.settle();
+        }
+        CHECK.due("1 and 2 wait", rig.waits(), "5660007777");
+        rig.line("R0 0");
+        rig.settle();
+        CHECK.due("0 gave the page: 2 has it", rig.waits() + ", " + rig.held(2), "5650007777, 0 0 1");
+        rig.line("R0 0");
+        rig.settle();
+        CHECK.due("0 gave the printer: 1 has it", rig.waits() + ", " + rig.held(1), "5550007777, 0 1 0");
+        rig.line("C2");
+        rig.settle();
+        CHECK.due("2 is over, and waits for nothing any more", rig.free() + ", " + rig.held(2), "1 0 1, 0 0 1");
+    }
+
     /** The row is gone through from its beginning: two wait for the same, the one that came first has it. */
     private static void fromItsBeginning() {
         Rig rig = new Rig(8, 2, 9);
@@ -273,6 +339,9 @@ public final class EdgesOfPart4Test {
         allPairsOfClaims();
         onlyAdmittedOnesCount();
         threeInAnOrder();
+        sixInOneOrder();
+        eachKindCounts();
+        whoCanNotStays();
         fromItsBeginning();
         severalAtOnce();
         theWholeMachine();

@@ -200,9 +200,9 @@ public final class EdgesOfPart5Test {
         replies("R0 0000000001", false, 0);
         replies("R0 000000001", true, 1);
         replies("R0 -000000000", true, 0);
-        for (String text : new String[] {"R0 /", "R0 :", "R0 1/", "R0 1:", "R0 --1", "R0 1-", "R0 -1-", "R0 +1", "R0 1 ",
-            "R0  1", "R0 - 1", "R0 1 1", "R0_1", "R0-1", "R01", "R0 a", "R0 1a", "r0 1", "R 0 1", " R0 1", "R0", "R",
-            "R00 1", "R/ 1", "R: 1", "Q0 1", "S0 1"}) {
+        for (String text : new String[] {"R0 /", "R0 :", "R0 1/", "R0 1:", "R0 --1", "R0 1-", "R0 -1-", "R0 +1",
+            "R0 1 ", "R0  1", "R0 - 1", "R0 1 1", "R0_1", "R0-1", "R01", "R0 a", "R0 1a", "r0 1", "R 0 1", " R0 1",
+            "R0", "R", "R00 1", "R/ 1", "R: 1", "Q0 1", "S0 1"}) {
             replies(text, false, 0);
         }
     }
@@ -230,8 +230,8 @@ public final class EdgesOfPart5Test {
             "A0", "A1", "A2", "A4", "A5", "A6", "A9"}) {
             says(text, false);
         }
-        for (String text : new String[] {"", " ", "?", "0", "A", "C", "AA", "A/", "A:", "A-", "A 3", "A3 ", " A3", "A33",
-            "A3A3", "a3", "C0 ", " C0", "C00", "c0", "C/", "C:", "C", "C 0", "B3", "D0", "@3", "[0", "0C", "3A",
+        for (String text : new String[] {"", " ", "?", "0", "A", "C", "AA", "A/", "A:", "A-", "A 3", "A3 ", " A3",
+            "A33", "A3A3", "a3", "C0 ", " C0", "C00", "c0", "C/", "C:", "C", "C 0", "B3", "D0", "@3", "[0", "0C", "3A",
             "12345678901234567890", "A3                  ", "C0                  "}) {
             says(text, false);
         }
@@ -271,6 +271,45 @@ public final class EdgesOfPart5Test {
         CHECK.due("R0, then R0", rig.all(0) + ", " + (rig.x.about(7) - bytes), "2 0 2 2 7 0 0 0 0 0 0 0 0, 2");
     }
 
+    /** "in the row of GETS (it leaves it)": what it waited for goes to the next, or stays free. */
+    private static void cancelledInTheRow() {
+        for (int more = 0; more <= 1; more++) {
+            Rig rig = new Rig(6, 1, 9);
+            for (int k = 0; k < 2 + more; k++) {
+                rig.load(1, 9, 1, Rig.ints(get(0), ASK));
+                rig.line("A" + k);
+                rig.settle();
+            }
+            rig.line("C1");
+            rig.line("C0");
+            rig.x.tick(2);
+            CHECK.due("both are woken", rig.row() + " " + rig.x.process(1, 1), "10 0");
+            rig.x.tick(4);
+            CHECK.due("both are over", rig.registers(0) + ", " + rig.registers(1), "3 5 1 1 0 0, 3 5 0 0 0 0");
+            CHECK.due("the reader", rig.free() + ", " + rig.held(1) + ", " + rig.held(2),
+                    more == 0 ? "1 1 1, 0 0 0, 0 0 0" : "0 1 1, 0 0 0, 1 0 0");
+            CHECK.due("the row", rig.row(), more == 0 ? "" : "2");
+        }
+    }
+
+    /** The printer prints for the one that holds it, whatever its number. */
+    private static void thePaperOfTheHolder() {
+        for (int holder = 0; holder < 3; holder++) {
+            Rig rig = new Rig(6, 1, 9);
+            for (int k = 0; k < 3; k++) {
+                rig.load(1, 50, 6, k == holder ? Rig.ints(get(1), get(2), Rig.op(Rig.SET, 44), PRINT, ASK)
+                        : Rig.ints(ASK));
+                rig.line("A" + k);
+            }
+            rig.settle();
+            rig.x.done(2);
+            rig.settle();
+            for (int k = 0; k < 3; k++) {
+                CHECK.due("job " + holder + " prints, paper of " + k, rig.paper(k), k == holder ? "44" : "");
+            }
+        }
+    }
+
     /** "ASK: the console says "k?", 10 (k the job's digit)". */
     private static void whoAsks() {
         Rig rig = new Rig(12, 1, 9);
@@ -293,6 +332,8 @@ public final class EdgesOfPart5Test {
         otherLines();
         admitted();
         aReplyTooLate();
+        cancelledInTheRow();
+        thePaperOfTheHolder();
         whoAsks();
         CHECK.finish();
     }

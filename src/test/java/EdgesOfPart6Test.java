@@ -75,6 +75,30 @@ public final class EdgesOfPart6Test {
         CHECK.due("nothing is written of it", rig.x.about(1), 0);
     }
 
+    /** "the console says "k=o", 10 (o the outcome)", for each k and each o. */
+    private static void whatIsSaid() {
+        int[] words = {0, Rig.END, Rig.op(Rig.JUMP, 0), Rig.op(Rig.GET, 0), -1, Rig.op(Rig.ASK)};
+        for (int outcome = 1; outcome <= 5; outcome++) {
+            Rig rig = new Rig(4, 1, 9);
+            for (int k = 0; k < 6; k++) {
+                rig.load(1, 9, 0, Rig.ints(words[outcome]));
+            }
+            StringBuilder due = new StringBuilder();
+            for (int k = 5; k >= 0; k--) {
+                rig.line("A" + k);
+                rig.settle();
+                if (outcome == 5) {
+                    rig.line("C" + k);
+                    rig.settle();
+                    due.append(k).append("?/");
+                }
+                due.append(k).append('=').append(outcome).append('/');
+                CHECK.due("said", rig.said(), due.toString());
+                CHECK.due("outcome", rig.x.job(k, 0) + " " + rig.x.job(k, 1), "3 " + outcome);
+            }
+        }
+    }
+
     /** "all its frames are FREE": of all others none. */
     private static void onlyItsFrames() {
         Rig rig = new Rig(6, 1, 9);
@@ -110,13 +134,6 @@ public final class EdgesOfPart6Test {
         CHECK.due("0 shows it still", rig.held(0) + " " + rig.x.job(0, 0), "1 0 0 3");
     }
 
-    private static void wrongLines(Rig rig, int count) {
-        for (int i = 0; i < count; i++) {
-            rig.x.type(10);
-            rig.x.tick(1);
-        }
-    }
-
     /** "(The console's sayings: the first 600 bytes are kept.)": a saying may be cut anywhere. */
     private static void sixHundredBytes() {
         // So many wrong lines, "?" and 10 each, then "0?" and 10, then "0=5" and 10.
@@ -124,7 +141,7 @@ public final class EdgesOfPart6Test {
         for (int lines = 295; lines <= 301; lines++) {
             Rig rig = new Rig(4, 1, 9);
             rig.load(1, 50, 0, Rig.ints(Rig.op(Rig.ASK)));
-            wrongLines(rig, lines);
+            rig.wrongLines(lines);
             rig.line("A0");
             rig.settle();
             rig.line("C0");
@@ -142,6 +159,7 @@ public final class EdgesOfPart6Test {
     public static void main(String[] args) {
         endings();
         endingWithoutLines();
+        whatIsSaid();
         onlyItsFrames();
         theRowIsGoneThrough();
         sixHundredBytes();

@@ -1,10 +1,11 @@
 import java.util.Arrays;
 import java.util.Random;
 
-/** Random runs of calls, each answer and the whole visible state held against the Model. */
+/** Random runs of calls, each answer and what can be seen behind it held against the Model. */
 public final class RandomRunsTest {
-    private static final int RUNS = 2000;
-    private static final int CALLS = 400;
+    private static final int RUNS = 6000;
+    // What the dearest of the calls below, a submit with its feeds and its line, may tell the machine.
+    private static final int CHANGES_A_CALL = 60;
 
     // What is counted, so that the runs can't miss the rarer paths without being noticed.
     private static final int WAITS = 0;
@@ -20,7 +21,7 @@ public final class RandomRunsTest {
     private final Check check = new Check();
     private final Random random;
     private final String run;
-    private final DrumLayers real;
+    private final Machine real;
     private final Model model;
     private final int[] seen;
     private int busy;
@@ -34,7 +35,7 @@ public final class RandomRunsTest {
         int frames = random.nextBoolean() ? 4 : random.nextInt(12) + 2;
         int pages = random.nextInt(8);
         int quantum = random.nextInt(11);
-        real = new DrumLayers(frames, pages, quantum);
+        real = new Machine(frames, pages, quantum);
         model = new Model(frames, pages, quantum);
     }
 
@@ -187,44 +188,83 @@ public final class RandomRunsTest {
         }
     }
 
-    private void compareState() {
-        for (int k = 0; k < 6; k++) {
-            seen[WAITS + model.process(k, 1)]++;
+    private void compareProcess(int k) {
+        for (int what = -1; what <= 2; what++) {
+            check.due(run + " process(" + k + ", " + what + ")", real.process(k, what), model.process(k, what));
         }
-        for (int k = -1; k <= 10; k++) {
-            for (int what = -1; what <= 2; what++) {
-                check.due(run + " process(" + k + ", " + what + ")", real.process(k, what), model.process(k, what));
-            }
+    }
+
+    private void compareJob(int k) {
+        for (int what = -1; what <= 13; what++) {
+            check.due(run + " job(" + k + ", " + what + ")", real.job(k, what), model.job(k, what));
         }
-        for (int k = -1; k <= 6; k++) {
-            for (int what = -1; what <= 13; what++) {
-                check.due(run + " job(" + k + ", " + what + ")", real.job(k, what), model.job(k, what));
-            }
-            for (int i = -1; i <= model.job(k, 10); i++) {
-                check.due(run + " paper(" + k + ", " + i + ")", real.paper(k, i), model.paper(k, i));
-            }
-            for (int i = -1; i <= 128; i++) {
-                check.due(run + " word(" + k + ", " + i + ")", real.word(k, i), model.word(k, i));
-            }
+    }
+
+    private void comparePaper(int k) {
+        for (int i = -1; i <= model.job(k, 10); i++) {
+            check.due(run + " paper(" + k + ", " + i + ")", real.paper(k, i), model.paper(k, i));
         }
-        for (int f = -1; f <= 12; f++) {
-            for (int what = -1; what <= 5; what++) {
-                check.due(run + " frame(" + f + ", " + what + ")", real.frame(f, what), model.frame(f, what));
-            }
+    }
+
+    private void compareWords(int k) {
+        for (int i = -1; i <= 128; i++) {
+            check.due(run + " word(" + k + ", " + i + ")", real.word(k, i), model.word(k, i));
         }
+    }
+
+    private void compareFrame(int f) {
+        for (int what = -1; what <= 5; what++) {
+            check.due(run + " frame(" + f + ", " + what + ")", real.frame(f, what), model.frame(f, what));
+        }
+    }
+
+    private void compareAbout() {
         for (int what = -1; what <= 11; what++) {
             check.due(run + " about(" + what + ")", real.about(what), model.about(what));
         }
+    }
+
+    /** A look at some of it behind each call, as each new object must be told all from its beginning. */
+    private void compareSome() {
+        for (int k = 0; k < 6; k++) {
+            seen[WAITS + model.process(k, 1)]++;
+        }
+        for (int k = 0; k < 10; k++) {
+            check.due(run + " process(" + k + ", 0)", real.process(k, 0), model.process(k, 0));
+        }
+        compareProcess(random.nextInt(12) - 1);
+        compareJob(random.nextInt(8) - 1);
+        compareFrame(random.nextInt(14) - 1);
+        compareAbout();
+    }
+
+    private void compareAll() {
+        for (int k = -1; k <= 10; k++) {
+            compareProcess(k);
+        }
+        for (int k = -1; k <= 6; k++) {
+            compareJob(k);
+            comparePaper(k);
+            compareWords(k);
+        }
+        for (int f = -1; f <= 12; f++) {
+            compareFrame(f);
+        }
+        compareAbout();
     }
 
     private void play() {
         busy = 10 + random.nextInt(60);
         longTicks = 1 + random.nextInt(20);
         drumIsSlow = pick(1, 1, 2, 6);
-        for (int call = 0; call < CALLS && check.clean(); call++) {
+        while (real.changesLeft() > CHANGES_A_CALL && check.clean()) {
             oneCall();
-            compareState();
+            compareSome();
+            if (random.nextInt(30) == 0) {
+                compareAll();
+            }
         }
+        compareAll();
         for (int i = -1; i <= 601; i++) {
             check.due(run + " octet(" + i + ")", real.octet(i), model.octet(i));
         }

@@ -1,4 +1,4 @@
-/** A DrumLayers with short ways to load, admit and watch jobs. */
+/** A machine with short ways to load, admit and watch jobs. */
 final class Rig {
     static final int END = 0;
     static final int LOAD = 1;
@@ -21,10 +21,10 @@ final class Rig {
     static final int SET = 18;
     static final int SET_X = 19;
 
-    final DrumLayers x;
+    final Machine x;
 
     Rig(int frames, int pages, int quantum) {
-        x = new DrumLayers(frames, pages, quantum);
+        x = new Machine(frames, pages, quantum);
     }
 
     static int op(int kind, int a) {
@@ -60,6 +60,17 @@ final class Rig {
             x.type(c);
         }
         x.type(10);
+    }
+
+    /** So many empty lines in a machine that is quiet but for them: the console says "?" and 10 to each. */
+    void wrongLines(int count) {
+        for (int left = count; left > 0; left -= 8) {
+            int some = Math.min(left, 8);
+            for (int i = 0; i < some; i++) {
+                x.type(10);
+            }
+            x.tick(some);
+        }
     }
 
     /** Goes on, the drum being quick, until nobody is ready and the drum does nothing. */
@@ -116,15 +127,16 @@ final class Rig {
 
     /** The ready row as digits, the first one first. */
     String row() {
-        StringBuilder text = new StringBuilder();
-        for (int place = 0; place < 10; place++) {
-            for (int k = 0; k < 10; k++) {
-                if (x.process(k, 0) == place) {
-                    text.append(k);
-                }
+        char[] row = new char[10];
+        int length = 0;
+        for (int k = 0; k < 10; k++) {
+            int place = x.process(k, 0);
+            if (place >= 0 && place < 10) {
+                row[place] = (char) ('0' + k);
+                length++;
             }
         }
-        return text.toString();
+        return new String(row, 0, length);
     }
 
     /** What the processes 0 to 9 wait for, a digit each. */
