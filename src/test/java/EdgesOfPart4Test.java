@@ -260,9 +260,10 @@ public final class EdgesOfPart4Test {
         rig.line("R0 0");
         rig.settle();
         CHECK.due("0 gave the printer: 1 has it", rig.waits() + ", " + rig.held(1), "5550007777, 0 1 0");
+        rig.line("C0");
         rig.line("C2");
         rig.settle();
-        CHECK.due("2 is over, and waits for nothing any more", rig.free() + ", " + rig.held(2), "1 0 1, 0 0 1");
+        CHECK.due("2 is over, and in the row no more", rig.free() + ", " + rig.held(2), "1 0 1, 0 0 1");
     }
 
     /** The row is gone through from its beginning: two wait for the same, the one that came first has it. */
