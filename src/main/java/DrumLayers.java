@@ -910,25 +910,29 @@ public final class DrumLayers {
             for (int r = 0; r < RESOURCES; r++) {
                 reachable[r] = free[r];
             }
+            // What can be reached only grows, so whoever can be put next may be, and no order is missed.
             for (int round = 0; round < JOBS && left > 0; round++) {
                 for (int k = 0; k < JOBS; k++) {
-                    if (canEnd[k]) {
-                        continue;
-                    }
-                    boolean fits = true;
-                    for (int r = 0; r < RESOURCES; r++) {
-                        fits = fits && jobs[k].claims[r] - jobs[k].held[r] <= reachable[r];
-                    }
-                    if (fits) {
+                    if (!canEnd[k] && putNext(jobs[k])) {
                         canEnd[k] = true;
                         left--;
-                        for (int r = 0; r < RESOURCES; r++) {
-                            reachable[r] += jobs[k].held[r];
-                        }
                     }
                 }
             }
             return left == 0;
+        }
+
+        /** Puts it next in the order and answers true, or false if it can't have all that it claims. */
+        private boolean putNext(Job job) {
+            for (int r = 0; r < RESOURCES; r++) {
+                if (job.claims[r] - job.held[r] > reachable[r]) {
+                    return false;
+                }
+            }
+            for (int r = 0; r < RESOURCES; r++) {
+                reachable[r] += job.held[r];
+            }
+            return true;
         }
     }
 
