@@ -266,6 +266,29 @@ public final class EdgesOfPart3Test {
         }
     }
 
+    /** "of a job that is over by then": that another one is over does not keep the words from the drum. */
+    private static void anotherIsOverByThen() {
+        Rig rig = new Rig(4, 1, 9);
+        rig.load(8, 50, 0, Rig.ints(Rig.op(Rig.SET, 5), Rig.op(Rig.STORE, 16), Rig.op(Rig.STORE, 32),
+                Rig.op(Rig.STORE, 48), Rig.op(Rig.SET, 0), Rig.op(Rig.LOAD, 16), Rig.END));
+        rig.load(1, 50, 0, Rig.ints(Rig.op(Rig.ASK)));
+        rig.line("A1");
+        rig.settle();
+        rig.line("A0");
+        for (int i = 0; i < 60 && rig.x.about(1) != 1; i++) {
+            rig.x.done(0);
+            rig.x.tick(1);
+        }
+        CHECK.due("writing", rig.x.about(1) + " " + rig.x.word(0, 16) + " " + rig.waits(), "1 5 1500008777");
+        rig.line("C1");
+        rig.x.tick(3);
+        CHECK.due("the other is over", rig.x.job(1, 0) + " " + rig.x.about(1) + " " + rig.x.word(0, 16), "3 1 5");
+        rig.x.done(0);
+        CHECK.due("written", rig.x.about(1) + " " + rig.x.word(0, 16), "0 5");
+        rig.settle();
+        CHECK.due("it came back", rig.registers(0), "3 1 7 7 5 0");
+    }
+
     /** One whose number was an old one's is written like others. */
     private static void theNewJobIsWritten() {
         Rig rig = writing();
@@ -297,6 +320,7 @@ public final class EdgesOfPart3Test {
         theFirstAndTheLastSegment();
         notOverByThen();
         overByThen();
+        anotherIsOverByThen();
         theNewJobIsWritten();
         CHECK.finish();
     }

@@ -14,8 +14,6 @@ import java.util.concurrent.TimeUnit;
 import java.util.regex.Matcher;
 import java.util.regex.Pattern;
 import java.util.stream.Stream;
-import javax.tools.JavaCompiler;
-import javax.tools.ToolProvider;
 
 /** README.md: its examples compile and answer as it says, its commands run, its lists are whole. */
 public final class ReadmeTest {
@@ -54,13 +52,24 @@ public final class ReadmeTest {
         return text.append("        return wrong.toString();\n    }\n}\n").toString();
     }
 
+    /** The exit code of a command, whose own new files and folders are to come into this folder. */
+    private static int run(Path folder, String... command) throws Exception {
+        Path said = folder.resolve("said");
+        ProcessBuilder builder = new ProcessBuilder(command).redirectErrorStream(true);
+        builder.environment().put("TMPDIR", folder.toString());
+        Process running = builder.redirectOutput(said.toFile()).start();
+        int exit = running.waitFor(300, TimeUnit.SECONDS) ? running.exitValue() : -1;
+        running.destroyForcibly();
+        if (exit != 0) {
+            System.out.println(Files.readString(said));
+        }
+        return exit;
+    }
+
     private static void example(Path folder, String name, String block) throws Exception {
-        JavaCompiler compiler = ToolProvider.getSystemJavaCompiler();
-        CHECK.due("there is a compiler", compiler != null, true);
         Path file = folder.resolve(name + ".java");
         Files.writeString(file, asClass(name, block));
-        int compiled = compiler.run(null, null, null, "-d", folder.toString(),
-                "src/main/java/DrumLayers.java", file.toString());
+        int compiled = run(folder, "javac", "-d", folder.toString(), "src/main/java/DrumLayers.java", file.toString());
         CHECK.due(name + " compiles", compiled, 0);
         if (compiled == 0) {
             try (URLClassLoader loader = new URLClassLoader(new URL[] {folder.toUri().toURL()})) {
@@ -84,13 +93,7 @@ public final class ReadmeTest {
         CHECK.due("commands", all.size(), 2);
         CHECK.due("the first", all.get(0), ".ci/run\n");
         CHECK.due("it can be run", Files.isExecutable(Path.of(".ci/run")), true);
-        ProcessBuilder shell = new ProcessBuilder("sh", "-e", "-c", all.get(1));
-        shell.environment().put("TMPDIR", folder.toString());
-        shell.redirectErrorStream(true).redirectOutput(folder.resolve("said").toFile());
-        Process running = shell.start();
-        CHECK.due("the second ends", running.waitFor(120, TimeUnit.SECONDS), true);
-        CHECK.due("the second's exit", running.isAlive() ? -1 : running.exitValue(), 0);
-        running.destroyForcibly();
+        CHECK.due("the second", run(folder, "sh", "-e", "-c", all.get(1)), 0);
     }
 
     /** The names in the first column of the tables, "Name1 to Name3" being three. */

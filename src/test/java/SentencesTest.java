@@ -240,6 +240,51 @@ public final class SentencesTest {
         refusesToCancel("one that is over and was cancelled", rig);
     }
 
+    /** "SAFE: all admitted jobs that are not over": what one that is over still shows helps nobody. */
+    private static void whatIsOverHelpsNobody() {
+        Rig rig = new Rig(6, 2, 9);
+        int page = Rig.op(Rig.GET, 2);
+        for (int k = 0; k < 3; k++) {
+            rig.load(1, 9, 4 * 2, Rig.ints(page, k == 0 ? page : Rig.op(Rig.ASK), k == 0 ? Rig.END : page, Rig.END));
+        }
+        rig.line("A0");
+        rig.finish(0);
+        CHECK.due("over with two pages", rig.x.job(0, 0) + " " + rig.held(0) + ", " + rig.free(), "3 0 0 2, 1 1 2");
+        rig.line("A1");
+        rig.settle();
+        rig.line("A2");
+        rig.settle();
+        CHECK.due("one page each would not be safe", rig.held(1) + ", " + rig.held(2) + ", " + rig.process(2),
+                "0 0 1, 0 0 0, -1 6");
+        rig.line("R1 0");
+        rig.settle();
+        CHECK.due("the first of them has both and ends", rig.x.job(1, 0) + " " + rig.held(1), "3 0 0 2");
+        CHECK.due("then the other has one", rig.held(2) + ", " + rig.process(2) + ", " + rig.free(),
+                "0 0 1, -1 5, 1 1 1");
+    }
+
+    /** "it is OVER ..; the row of GETS is gone through": what it held is free then, and is counted once. */
+    private static void theRowBehindAnEnding() {
+        Rig rig = new Rig(6, 2, 9);
+        int page = Rig.op(Rig.GET, 2);
+        for (int k = 0; k < 3; k++) {
+            rig.load(1, 9, 4 * 2, k == 0 ? Rig.ints(page, page, Rig.op(Rig.ASK), Rig.END)
+                    : Rig.ints(page, Rig.op(Rig.ASK), page, Rig.END));
+            rig.line("A" + k);
+            rig.settle();
+        }
+        CHECK.due("job 0 has both pages, the others wait", rig.waits().substring(0, 3) + ", " + rig.free(),
+                "566, 1 1 0");
+        rig.line("R0 0");
+        rig.settle();
+        CHECK.due("job 0 is over, one of the others has a page", rig.x.job(0, 0) + " " + rig.held(1) + " "
+                + rig.held(2) + " " + rig.waits().substring(0, 3) + ", " + rig.free(), "3 0 0 1 0 0 0 056, 1 1 1");
+        rig.line("R1 0");
+        rig.settle();
+        CHECK.due("it has the second, and is over", rig.x.job(1, 0) + " " + rig.held(2) + ", " + rig.free(),
+                "3 0 0 1, 1 1 1");
+    }
+
     public static void main(String[] args) {
         theOutcomeComesInTheEnd();
         howManyAreAdmittedThen();
@@ -247,6 +292,8 @@ public final class SentencesTest {
         pinnedAtTheEnd();
         whoIsToldToCancel();
         whoIsNot();
+        whatIsOverHelpsNobody();
+        theRowBehindAnEnding();
         CHECK.finish();
     }
 }
